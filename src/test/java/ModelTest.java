@@ -13,12 +13,12 @@ public final class ModelTest {
     private int calls = 0;
 
     private ModelTest(int seed) {
-        chance = new Random(seed);
+        chance = new Random(seed * 0x9E3779B97F4A7C15L);
         run = "run " + seed + " ";
     }
 
     public static void main(String[] args) {
-        int runs = args.length > 0 ? Integer.parseInt(args[0]) : 150;
+        int runs = args.length > 0 ? Integer.parseInt(args[0]) : 400;
         for (int seed = 1; seed <= runs; seed++) {
             new ModelTest(seed).go();
         }
@@ -32,10 +32,13 @@ public final class ModelTest {
 
     private void go() {
         int dear = 0;
+        if (below(8) > 0) {
+            layText(text());
+        }
         while (calls < 500) {
-            int kind = chance.nextInt(40);
+            int kind = below(40);
             if (kind < 2) {
-                layText();
+                layText(below(3) == 0 ? spoiled(text()) : text());
             } else if (kind < 8) {
                 layRound();
             } else if (kind < 14) {
@@ -45,7 +48,7 @@ public final class ModelTest {
             } else if (kind < 26) {
                 orders(dear > 12);
                 dear++;
-            } else if (kind < 34) {
+            } else if (kind < 39) {
                 readings();
             } else {
                 wild();
@@ -88,8 +91,7 @@ public final class ModelTest {
         return out.length() > 60 ? out.substring(0, 60) : out.toString();
     }
 
-    private void layText() {
-        String text = below(3) == 0 ? spoiled(text()) : text();
+    private void layText(String text) {
         int k = below(4);
         int lane = below(3);
         int i = below(Math.min(4, 61 - text.length()));
@@ -145,7 +147,12 @@ public final class ModelTest {
             case 2, 3 -> due("put", x.put(k, i, v), m.put(k, i, v));
             case 4 -> due("cell", x.cell(k, i, lane), m.cell(k, i, lane));
             default -> {
-                due("copy", x.copy(k, i, other, j, n), m.copy(k, i, other, j, n));
+                int few = below(2) == 0 ? n : below(4);
+                due("sheet", x.sheet(k, lane, 12), m.sheet(k, lane, 12));
+                for (int c = 0; c < 6; c++) {
+                    due("put", x.put(k, i + c, v + c), m.put(k, i + c, v + c));
+                }
+                due("copy", x.copy(k, i, other, j, few), m.copy(k, i, other, j, few));
                 for (int c = 0; c < 6; c++) {
                     due("cell", x.cell(other, j + c, lane), m.cell(other, j + c, lane));
                 }
@@ -183,9 +190,6 @@ public final class ModelTest {
         due("best " + t, x.best(t, -1), m.best(t, -1));
         due("best " + t + " " + q, x.best(t, q), m.best(t, q));
         due("safe", x.safe(), m.safe());
-        if (m.many(0) > 5) {
-            return;
-        }
         int what = near(2);
         due("letGo", x.letGo(), m.letGo());
         due("two " + t + " " + what, x.two(t, what), m.two(t, what));
