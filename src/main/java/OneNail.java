@@ -22,9 +22,6 @@ public final class OneNail {
     private static final int HEAD_CODES = 2;
     private static final int THING_CODES = 7;
 
-    // How many orders there are of 0 .. 6 things.
-    private static final int[] ORDERS_OF = {1, 1, 2, 6, 24, 120, 720};
-
     private final Street town = new Street();
     private final Readings seen = new Readings();
     private final Walk walk = new Walk(town);
@@ -153,7 +150,7 @@ public final class OneNail {
         if (town.count == 0) {
             return STATE;
         }
-        return orders.countSafe(town.all());
+        return orders.countSafe(town.all(), Integer.MAX_VALUE);
     }
 
     public int letGo() {
@@ -163,7 +160,8 @@ public final class OneNail {
         int all = town.all();
         int fewest = all;
         for (int set = 0; set <= all; set++) {
-            if (Integer.bitCount(set) < Integer.bitCount(fewest) && orders.someSafe(all & ~set)) {
+            boolean fewer = Integer.bitCount(set) < Integer.bitCount(fewest);
+            if (fewer && orders.countSafe(all & ~set, 1) > 0) {
                 fewest = set;
             }
         }
@@ -217,9 +215,6 @@ public final class OneNail {
         }
         if (!isMinute(minute)) {
             return OUTSIDE;
-        }
-        if (seen.count >= MOST_READINGS) {
-            return FULL;
         }
         return seen.note(x, minute, up);
     }
@@ -873,6 +868,9 @@ public final class OneNail {
      * period, so falls are counted by a division, without a walk for each order.
      */
     static final class Orders {
+        // How many orders there are of 0 .. 6 things.
+        private static final int[] ORDERS_OF = {1, 1, 2, 6, 24, 120, 720};
+
         private final Street town;
         private final int[] row = new int[MOST_THINGS];
         private int length = 0;
@@ -900,10 +898,11 @@ public final class OneNail {
             return least;
         }
 
-        int countSafe(int set) {
+        /** Counted no further than enough. */
+        int countSafe(int set, int enough) {
             int many = begin(set);
             int sum = 0;
-            for (int k = 0; k < many; k++) {
+            for (int k = 0; k < many && sum < enough; k++) {
                 time(town.smithyPlace);
                 if (nothingEverFalls()) {
                     sum++;
@@ -911,18 +910,6 @@ public final class OneNail {
                 goOn();
             }
             return sum;
-        }
-
-        boolean someSafe(int set) {
-            int many = begin(set);
-            for (int k = 0; k < many; k++) {
-                time(town.smithyPlace);
-                if (nothingEverFalls()) {
-                    return true;
-                }
-                goOn();
-            }
-            return false;
         }
 
         int countFitting(int set, Readings seen) {

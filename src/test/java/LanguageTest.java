@@ -97,7 +97,7 @@ public final class LanguageTest {
             "import", "package", "var", "native", "volatile", "transient", "yield"}) {
             Check.holds("6 no " + word, !Pattern.compile("\\b" + word + "\\b").matcher(code).find());
         }
-        for (String sign : new String[] {"->", "::", "Exact(", "\"", "hashCode", "toString", "System.current", "static {"}) {
+        for (String sign : new String[] {"->", "::", "Exact(", "\"", "hashCode", "toString", "static {"}) {
             Check.holds("no " + sign, !code.contains(sign));
         }
         Check.holds("signs 1 to 127", source.chars().allMatch(c -> c >= 1 && c <= 127));

@@ -74,7 +74,8 @@ public final class ModelTest {
         StringBuilder text = new StringBuilder("s").append(below(10));
         for (int k = 0; k < things; k++) {
             int hold = 1 + below(tight ? 25 : 99);
-            text.append(';').append("tdc".charAt(below(3))).append(below(tight ? 4 : 10)).append(1 + below(tight ? 3 : 9));
+            text.append(';').append("tdc".charAt(below(3)));
+            text.append(below(tight ? 4 : 10)).append(1 + below(tight ? 3 : 9));
             text.append(hold / 10).append(hold % 10).append(1 + below(9));
         }
         return text.toString();

@@ -1,6 +1,7 @@
 /** Promises 10 to 14. */
 public final class OrderTest {
-    // By 0, 1 the nail comes to 0 at 4, to 1 at 14 (it fell at 5); by 1, 0 to 1 at 5 (just so), to 0 at 15 (it fell at 9).
+    // By 0, 1 the nail comes to 0 at 4, to 1 at 14 (it fell at 5);
+    // by 1, 0 it comes to 1 at 5 (just so), to 0 at 15 (it fell at 9).
     private static final String FAR = "s5;t91091;t01052";
 
     public static void main(String[] args) {
@@ -29,6 +30,10 @@ public final class OrderTest {
         row(x, 10, 1, 1, 0);
         row(x, 11, 1, 1, 0);
         row(x, 12, 2, 0, 1);
+        // Each round is 20 minutes: till 300 each thing falls 15 times by either order.
+        row(x, 291, 43, 1, 0);
+        row(x, 292, 44, 0, 1);
+        row(x, 300, 45, 0, 1);
         x.smithy(9);
         row(x, 10, 2, 0, 1);
         row(Town.of("s0;t01091"), 300, 0, 0);
@@ -47,6 +52,9 @@ public final class OrderTest {
         Check.due("11 again", x.safe(), 2);
         x.rust(1);
         Check.due("11 rusty", x.safe(), 0);
+        Check.due("11 three", Town.of("s0;t01991;t01991;t01991").safe(), 6);
+        Check.due("11 four", Town.of("s0;t01991;t01991;t01991;t01991").safe(), 24);
+        Check.due("11 five", Town.of("s0;t01991;t01991;t01991;t01991;t01991").safe(), 120);
         Check.due("11 six", Town.of("s0;t01991;t01991;t01991;t01991;t01991;t01991").safe(), 720);
         Check.due("11 none", Town.of(FAR).safe(), 0);
         Check.due("11 just so", Town.of("s0;t91091").safe(), 1);
@@ -58,6 +66,7 @@ public final class OrderTest {
         Check.due("12 the least", x.letGo(), 1);
         x.smithy(6);
         Check.due("12 the other", x.letGo(), 2);
+        Check.due("12 none by the second order", Town.of("s2;t01031;t11031").letGo(), 0);
         Check.due("12 none", Town.of("s0;t01031;t11031").letGo(), 0);
         Check.due("12 all", Town.of("s0;t91011").letGo(), 1);
         Check.due("12 all of three", Town.of("s0;t91011;t81011;t71011").letGo(), 7);
@@ -89,6 +98,8 @@ public final class OrderTest {
         Check.due("14 harm", x.site(10, 1), 1);
         Check.due("14 first", x.site(5, 0), 0);
         Check.due("14 the smithy stays", x.many(1), 5);
+        Check.due("14 at 0", Town.of("s9;t11011").site(300, 0), 0);
+        Check.due("14 at 1", Town.of("s9;t21011").site(300, 0), 1);
         Check.due("14 last", Town.of("s0;t91011").site(300, 0), 8);
         x.smithy(0);
         Check.due("14 wherever it is", x.site(10, 0), 4);

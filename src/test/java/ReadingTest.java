@@ -67,6 +67,9 @@ public final class ReadingTest {
         Check.due("17 by how rusty it is", moved.fits(-1), 1);
         moved.rust(0);
         Check.due("17 as it was", moved.fits(0), 1);
+        OneNail alone = Town.of("s0;t01011");
+        alone.reading(0, 50, true);
+        Check.due("17 the nail stays in it", alone.fits(-1), 1);
         Check.due("17 of six", Town.of("s0;t01991;t01991;t01991;t01991;t01991;t01991").fits(-1), 720);
     }
 

@@ -97,6 +97,9 @@ public final class RoundTest {
         Check.due("8 late at 5", late.fall(0, 2, 0, 2, 0), 51);
         OneNail wrap = round("s0;t01031;t11031", 0, 1, 1);
         Check.due("7 late over the row's end", wrap.never(0, 2, 0, 3), 0);
+        OneNail third = round("s0;t01091;t01091;t11031", 0, 1, 2);
+        Check.due("7 the last is late the second time", third.never(0, 2, 0, 3), 0);
+        Check.due("8 late at 7", third.fall(0, 2, 0, 3, 0), 72);
         OneNail left = round("s0;t01991;t11991", 0, 0, 0, 0, 0, 0, 0, 0);
         Check.due("7 one is left out", left.never(0, 2, 0, 8), 0);
         Check.due("8 at 99", left.fall(0, 2, 0, 8, 0), 991);
@@ -119,6 +122,8 @@ public final class RoundTest {
             Check.due("8 from 2 on", x.fall(lane, lane, 2, 2, 0), 60);
             Check.due("7 from 2 on", x.never(lane, lane, 2, 2), 0);
         }
+        Check.due("8 of one round", x.fall(0, 0, 2, 2, -1), 66);
+        Check.due("8 nothing is left of it", x.fall(0, 0, 1, 1, -1), 1);
         OneNail moved = round(PAIR, 0, 1);
         moved.smithy(5);
         Check.due("9 from the smithy", moved.nail(0, 2, 0, 2, 3), 0);

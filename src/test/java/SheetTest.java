@@ -39,6 +39,15 @@ public final class SheetTest {
         x.sheet(3, 2, 1);
         x.sheet(3, 2, 2);
         due(x, "18 longer again", x.cell(3, 1, 2), 0, 0);
+        x.put(3, 0, 7);
+        x.sheet(3, 2, 1);
+        due(x, "18 the first is 0", x.cell(3, 0, 2), 0, 0);
+        x.sheet(3, 2, 0);
+        due(x, "18 none has none", x.cell(3, 0, 2), OneNail.LOST, 3);
+        due(x, "18 none has none", x.put(3, 0, 1), -13, 3);
+        due(x, "18 a row after a fault", x.sheet(3, 0, 1), 1, 0);
+        x.put(3, 1, 1);
+        due(x, "18 refused after a fault", x.sheet(3, 0, 61), OneNail.OUTSIDE, 0);
     }
 
     private static void loses() {
@@ -150,6 +159,9 @@ public final class SheetTest {
         due(x, "22 from beyond", x.copy(0, 1, 3, 0, 3), -13, 3);
         due(x, "22 to beyond", x.copy(0, 0, 3, 2, 3), -13, 3);
         due(x, "22 wraps", x.copy(0, 1, 3, 1, Integer.MAX_VALUE), -13, 3);
+        due(x, "22 refused after a fault", x.copy(0, 0, 9, 0, 0), OneNail.UNKNOWN, 0);
+        x.copy(2, 0, 2, 0, 0);
+        due(x, "22 copied after a fault", x.copy(0, 0, 3, 4, 0), 0, 0);
         row(x, 0, 1, 1, 2, 3);
         row(x, 1, 2, 4, 5, 6, 7);
         row(x, 3, 1, 8, 8, 8, 8);
