@@ -24,6 +24,7 @@ public final class EdgeRoundTest {
         upTillInAndHolds();
         downUntilItComes();
         eightOfARow();
+        aComingEveryMinute();
         theLastOfTheRowIsLate();
         eachRoundIsGoneAnew();
         harmsMinutes();
@@ -253,6 +254,16 @@ public final class EdgeRoundTest {
         Check.due("7 a minute late, both", x.never(0, 2, 0, 8), 0);
         Check.due("8 the first", x.fall(0, 2, 0, 8, 0), 250);
         Check.due("8 the eighth", x.fall(0, 2, 0, 8, 1), 411);
+    }
+
+    /** No nail comes more often; to the second it comes at 299, just when it would fall. */
+    private static void aComingEveryMinute() {
+        OneNail x = Edge.of("s0;t01011;t01011", 0, 1).get();
+        Check.due("9 at 298", x.nail(0, 2, 0, 2, 298), 0);
+        Check.due("9 at 299", x.nail(0, 2, 0, 2, 299), 1);
+        Check.due("7 just then every minute", x.never(0, 2, 0, 2), 1);
+        Check.due("8 just then every minute", x.fall(0, 2, 0, 2, -1), 0);
+        Check.due("6 just then every minute", x.harm(0, 2, 0, 2, 300), 0);
     }
 
     /** The first time it is just then, the second time behind the whole row it is not. */
