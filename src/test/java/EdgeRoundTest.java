@@ -322,6 +322,9 @@ public final class EdgeRoundTest {
         OneNail first = Edge.of("s0;t91085;t01991", 1).get();
         Check.due("6 the first THING's, t 8", first.harm(0, 2, 0, 1, 8), 0);
         Check.due("6 the first THING's, t 9", first.harm(0, 2, 0, 1, 9), 5);
+        OneNail six = Edge.of("s0;t01991;t91081;t91081;t91081;t91081;t91089", 0).get();
+        Check.due("6 the sixth THING's, t 8", six.harm(0, 2, 0, 1, 8), 0);
+        Check.due("6 the sixth THING's, t 9", six.harm(0, 2, 0, 1, 9), 13);
         // 16 falls of a HARM of 9.
         Check.due("6 again and again", Edge.of("s0;t01991;t91089", 0, 1).get().harm(0, 2, 0, 2, 300), 144);
     }
