@@ -18,6 +18,8 @@ public final class OneNail {
     private static final int SHEETS = 4;
     private static final int LANES = 3;
     private static final int KINDS = 3;
+    // No harm and no count of orders comes near it.
+    private static final int BEYOND = 1_000_000;
 
     private static final int HEAD_CODES = 2;
     private static final int THING_CODES = 7;
@@ -150,7 +152,7 @@ public final class OneNail {
         if (town.count == 0) {
             return STATE;
         }
-        return orders.countSafe(town.all(), Integer.MAX_VALUE);
+        return orders.countSafe(town.all(), BEYOND);
     }
 
     public int letGo() {
@@ -885,7 +887,7 @@ public final class OneNail {
 
         int leastHarm(int set, int from, int t) {
             int many = begin(set);
-            int least = Integer.MAX_VALUE;
+            int least = BEYOND;
             for (int k = 0; k < many && least > 0; k++) {
                 time(from);
                 int done = harmBelow(t, least);

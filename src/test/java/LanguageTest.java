@@ -7,6 +7,7 @@ import java.nio.file.Path;
 import java.util.Arrays;
 import java.util.Set;
 import java.util.TreeSet;
+import java.util.regex.Matcher;
 import java.util.regex.Pattern;
 
 /** The face, and those rules of LANGUAGE.md that a look at the class or its text can tell. */
@@ -100,8 +101,19 @@ public final class LanguageTest {
         for (String sign : new String[] {"->", "::", "Exact(", "\"", "hashCode", "toString", "static {"}) {
             Check.holds("no " + sign, !code.contains(sign));
         }
+        library(code.replace("long LOST = Long.MIN_VALUE", ""));
         Check.holds("signs 1 to 127", source.chars().allMatch(c -> c >= 1 && c <= 127));
         methodLengths(source);
+    }
+
+    /** Rule 4 lists the functions of Integer, Long and Math, not their constants; LOST is the face's own. */
+    private static void library(String code) {
+        Matcher used = Pattern.compile("\\b([A-Z]\\w*)\\.(\\w+)(\\(?)").matcher(code);
+        while (used.find()) {
+            boolean numbers = used.group(1).matches("Integer|Long|Math");
+            boolean rows = used.group(1).equals("System") && used.group(2).equals("arraycopy");
+            Check.holds("4 " + used.group(), (numbers || rows) && used.group(3).equals("("));
+        }
     }
 
     /** A method's body is what stands between a line that opens it and the brace that stands as deep. */
