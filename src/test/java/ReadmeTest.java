@@ -18,6 +18,7 @@ import javax.tools.ToolProvider;
 /** What README.md shows of the class's use compiles and answers so; it shows every call and names every test. */
 public final class ReadmeTest {
     private static final Path PAGE = Path.of("README.md");
+    private static final String COMMAND = "javac -d out src/main/java/OneNail.java Mine.java";
     private static final Path TESTS = Path.of("src/test/java");
     // A call, and what its comment begins with: a number or the name of a constant.
     private static final Pattern CALL = Pattern.compile("(\\w+\\.(\\w+)\\(.*\\));\\s+// (-?\\d+|[A-Z]+)(:.*)?");
@@ -28,7 +29,7 @@ public final class ReadmeTest {
         Check.holds("README.md shows the class's use", !shown.isEmpty());
         Path room = Files.createTempDirectory("readme");
         try {
-            asItStands(shown, room);
+            asItStands(page, shown, room);
             asItAnswers(shown, room);
         } finally {
             clear(room);
@@ -53,12 +54,20 @@ public final class ReadmeTest {
         return lines;
     }
 
-    private static void asItStands(List<String> shown, Path room) throws IOException, ReflectiveOperationException {
-        String source = "public final class Shown {\n    public static void run() {\n"
+    /** By the command that README.md shows, into a directory of this test's own. */
+    private static void asItStands(String page, List<String> shown, Path room)
+            throws IOException, ReflectiveOperationException {
+        List<String> commands = blocks(page, "sh");
+        Check.holds("README.md says how to compile", commands.contains(COMMAND));
+        String source = "public final class Mine {\n    public static void run() {\n"
                 + String.join("\n", shown) + "\n    }\n}\n";
-        Method run = compiled(room, "Shown", source);
-        if (run != null) {
-            run.invoke(null);
+        Path file = write(room, "Mine", source);
+        List<String> words = new ArrayList<>();
+        for (String word : COMMAND.substring("javac ".length()).split(" ")) {
+            words.add(word.equals("out") ? room.toString() : word.equals("Mine.java") ? file.toString() : word);
+        }
+        if (compiles("Mine", words)) {
+            runOf(room, "Mine").invoke(null);
         }
     }
 
@@ -82,11 +91,12 @@ public final class ReadmeTest {
                 + "    private static java.util.List<Long> got = new java.util.ArrayList<>();\n"
                 + "    private static void keep(long answer) { got.add(answer); }\n"
                 + "    public static java.util.List<Long> run() {\n" + body + "        return got;\n    }\n}\n";
-        Method run = compiled(room, "Answers", source);
-        if (run == null) {
+        Path file = write(room, "Answers", source);
+        String classes = System.getProperty("java.class.path");
+        if (!compiles("Answers", List.of("-d", room.toString(), "-cp", classes, file.toString()))) {
             return;
         }
-        List<?> got = (List<?>) run.invoke(null);
+        List<?> got = (List<?>) runOf(room, "Answers").invoke(null);
         Check.due("answers of README.md", got.size(), answers.size());
         for (int k = 0; k < got.size() && k < answers.size(); k++) {
             Check.due("README.md: " + calls.get(k), (Long) got.get(k), number(answers.get(k)));
@@ -100,23 +110,21 @@ public final class ReadmeTest {
         return ((Number) OneNail.class.getField(answer).get(null)).longValue();
     }
 
-    /** The method run of a class, or null if it doesn't compile. */
-    private static Method compiled(Path room, String name, String source)
-            throws IOException, ReflectiveOperationException {
+    private static Path write(Path room, String name, String source) throws IOException {
+        return Files.writeString(room.resolve(name + ".java"), source);
+    }
+
+    private static boolean compiles(String name, List<String> words) {
         JavaCompiler compiler = ToolProvider.getSystemJavaCompiler();
         Check.holds("there is a compiler", compiler != null);
-        if (compiler == null) {
-            return null;
-        }
-        Path file = room.resolve(name + ".java");
-        Files.writeString(file, source);
-        int how = compiler.run(null, null, null, "-Xlint:all", "-Werror", "-d", room.toString(),
-                "-cp", System.getProperty("java.class.path"), file.toString());
+        int how = compiler == null ? 1 : compiler.run(null, null, null, words.toArray(new String[0]));
         Check.due("README.md compiles: " + name, how, 0);
-        if (how != 0) {
-            return null;
-        }
+        return how == 0;
+    }
+
+    private static Method runOf(Path room, String name) throws IOException, ReflectiveOperationException {
         try (URLClassLoader loader = new URLClassLoader(new URL[] {room.toUri().toURL()})) {
+            // Loaded whole ahead of the loader's end: neither class has another of its own beside it.
             return loader.loadClass(name).getMethod("run");
         }
     }
